@@ -58,8 +58,10 @@ public final class Rungmaster {
             a = other.a;
             b = other.b;
             contactCount = other.contactCount;
-            System.arraycopy(other.contactKinds, 0, contactKinds, 0, MAX_CONTACTS);
-            System.arraycopy(other.contactBits, 0, contactBits, 0, MAX_CONTACTS);
+            for (int i = 0; i < MAX_CONTACTS; i++) {
+                contactKinds[i] = other.contactKinds[i];
+                contactBits[i] = other.contactBits[i];
+            }
         }
 
         boolean hasSameContact(Rung other, int index) {
@@ -82,9 +84,11 @@ public final class Rungmaster {
 
         void copyFrom(Step other) {
             actionCount = other.actionCount;
-            System.arraycopy(other.kinds, 0, kinds, 0, MAX_ACTIONS);
-            System.arraycopy(other.bits, 0, bits, 0, MAX_ACTIONS);
-            System.arraycopy(other.times, 0, times, 0, MAX_ACTIONS);
+            for (int i = 0; i < MAX_ACTIONS; i++) {
+                kinds[i] = other.kinds[i];
+                bits[i] = other.bits[i];
+                times[i] = other.times[i];
+            }
         }
     }
 
@@ -162,26 +166,26 @@ public final class Rungmaster {
         }
     }
 
-    /** The alarms and their row. */
+    /** The alarms and their row; which are there, and which were acknowledged, are masks. */
     private static final class Alarms {
-        final boolean[] there = new boolean[EIGHT];
-        final boolean[] acknowledged = new boolean[EIGHT];
+        int there;
+        int acknowledged;
         final int[] shelvedFor = new int[EIGHT];
         final int[] row = new int[EIGHT];
         int rowLength;
 
         void clear() {
+            there = 0;
+            acknowledged = 0;
             for (int i = 0; i < EIGHT; i++) {
-                there[i] = false;
-                acknowledged[i] = false;
                 shelvedFor[i] = 0;
             }
             rowLength = 0;
         }
 
         void copyFrom(Alarms other) {
-            System.arraycopy(other.there, 0, there, 0, EIGHT);
-            System.arraycopy(other.acknowledged, 0, acknowledged, 0, EIGHT);
+            there = other.there;
+            acknowledged = other.acknowledged;
             System.arraycopy(other.shelvedFor, 0, shelvedFor, 0, EIGHT);
             System.arraycopy(other.row, 0, row, 0, EIGHT);
             rowLength = other.rowLength;
@@ -218,12 +222,12 @@ public final class Rungmaster {
                 }
             }
             rowLength = kept;
-            acknowledged[which] = false;
+            acknowledged &= ~maskOf(which);
         }
 
         void appear(int which) {
-            if (!there[which]) {
-                there[which] = true;
+            if (!isSet(there, which)) {
+                there |= maskOf(which);
                 if (shelvedFor[which] == 0) {
                     enterRow(which);
                 }
@@ -231,15 +235,15 @@ public final class Rungmaster {
         }
 
         void vanish(int which) {
-            there[which] = false;
-            if (acknowledged[which]) {
+            there &= ~maskOf(which);
+            if (isSet(acknowledged, which)) {
                 leaveRow(which);
             }
         }
 
         void confirm(int which) {
-            if (there[which]) {
-                acknowledged[which] = true;
+            if (isSet(there, which)) {
+                acknowledged |= maskOf(which);
             } else {
                 leaveRow(which);
             }
@@ -249,7 +253,7 @@ public final class Rungmaster {
             shelvedFor[which] = units;
             if (units > 0) {
                 leaveRow(which);
-            } else if (there[which]) {
+            } else if (isSet(there, which)) {
                 enterRow(which);
             }
         }
@@ -258,7 +262,7 @@ public final class Rungmaster {
             for (int i = 0; i < EIGHT; i++) {
                 if (shelvedFor[i] > 0) {
                     shelvedFor[i]--;
-                    if (shelvedFor[i] == 0 && there[i]) {
+                    if (shelvedFor[i] == 0 && isSet(there, i)) {
                         enterRow(i);
                     }
                 }
@@ -269,8 +273,8 @@ public final class Rungmaster {
             if (shelvedFor[which] > 0) {
                 return 's';
             }
-            if (there[which]) {
-                return acknowledged[which] ? 'a' : 't';
+            if (isSet(there, which)) {
+                return isSet(acknowledged, which) ? 'a' : 't';
             }
             return timesInRow(which) > 0 ? 'r' : 'n';
         }
@@ -278,7 +282,7 @@ public final class Rungmaster {
         boolean areSound() {
             for (int i = 0; i < EIGHT; i++) {
                 int times = timesInRow(i);
-                if (times > 1 || times == 0 && there[i] && shelvedFor[i] == 0) {
+                if (times > 1 || times == 0 && isSet(there, i) && shelvedFor[i] == 0) {
                     return false;
                 }
             }
@@ -291,11 +295,13 @@ public final class Rungmaster {
         int bits;
         int active = 1;
         int missedInRow;
+        // Which rungs of the kind 'C' held when they were done last, as a mask of rungs.
+        long held;
         final int[] numbers = new int[EIGHT];
         final int[] timers = new int[EIGHT];
         final int[] stepTimes = new int[MAX_STEPS];
+        // What the contacts of each rung saw last, as a mask of contacts.
         final int[] seen = new int[MAX_RUNGS];
-        final boolean[] held = new boolean[MAX_RUNGS];
         final int[] lastScans = new int[TASKS];
         final Alarms alarmBook = new Alarms();
 
@@ -303,6 +309,7 @@ public final class Rungmaster {
             bits = 0;
             active = 1;
             missedInRow = 0;
+            held = 0;
             for (int i = 0; i < EIGHT; i++) {
                 numbers[i] = 0;
                 timers[i] = 0;
@@ -312,7 +319,6 @@ public final class Rungmaster {
             }
             for (int i = 0; i < MAX_RUNGS; i++) {
                 seen[i] = 0;
-                held[i] = false;
             }
             for (int i = 0; i < TASKS; i++) {
                 lastScans[i] = time;
@@ -324,13 +330,21 @@ public final class Rungmaster {
             bits = other.bits;
             active = other.active;
             missedInRow = other.missedInRow;
+            held = other.held;
             System.arraycopy(other.numbers, 0, numbers, 0, EIGHT);
             System.arraycopy(other.timers, 0, timers, 0, EIGHT);
             System.arraycopy(other.stepTimes, 0, stepTimes, 0, MAX_STEPS);
             System.arraycopy(other.seen, 0, seen, 0, MAX_RUNGS);
-            System.arraycopy(other.held, 0, held, 0, MAX_RUNGS);
             System.arraycopy(other.lastScans, 0, lastScans, 0, TASKS);
             alarmBook.copyFrom(other.alarmBook);
+        }
+
+        boolean didHold(int rung) {
+            return (held >>> rung & 1L) == 1L;
+        }
+
+        void keepHolding(int rung, boolean holds) {
+            held = holds ? held | 1L << rung : held & ~(1L << rung);
         }
 
         void write(int where, boolean one) {
@@ -831,7 +845,7 @@ public final class Rungmaster {
                 holdKept = code.rungRow[i].isSameCounter(draft.rungRow[i]);
             }
             state.seen[i] &= kept;
-            state.held[i] = state.held[i] && holdKept;
+            state.keepHolding(i, state.didHold(i) && holdKept);
         }
     }
 
@@ -876,7 +890,9 @@ public final class Rungmaster {
         if (task == 0) {
             state.bits = plant.stationInputs(state.bits);
         }
-        saved.copyFrom(state);
+        if (code.rungCount > tasks[task].watch) {
+            saved.copyFrom(state);
+        }
         int elapsed = now - state.lastScans[task];
         int rungsDone = doRungs(task, elapsed);
         if (rungsDone > tasks[task].watch) {
@@ -1017,10 +1033,10 @@ public final class Rungmaster {
     private void runTimer(int index, Rung rung, boolean holds, int elapsed) {
         int reached = state.timers[rung.a];
         if (rung.kind == 'C') {
-            if (holds && !state.held[index]) {
+            if (holds && !state.didHold(index)) {
                 reached++;
             }
-            state.held[index] = holds;
+            state.keepHolding(index, holds);
         } else if (holds) {
             reached += elapsed;
         } else if (rung.kind == 'T') {

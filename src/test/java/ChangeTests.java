@@ -160,6 +160,12 @@ public final class ChangeTests {
         z.takeOver();
         z.pass(10);
         Check.same("it was another kind between", z.timer(1), 2);
+        Rungmaster w = hasHeld();
+        w.takeOver();
+        w.rung(0, 'C', 1, 9);
+        w.takeOver();
+        w.pass(10);
+        Check.same("there was none between", w.timer(1), 2);
     }
 
     private static void allElseStays() {

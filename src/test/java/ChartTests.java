@@ -16,6 +16,7 @@ public final class ChartTests {
         actionN();
         actionsSAndR();
         actionsDAndL();
+        stepsThatAreNotActiveDoNothing();
         leavingGoesFirst();
         actionsInOrder();
         bitIsLookedAtBehindRungs();
@@ -202,8 +203,8 @@ public final class ChartTests {
 
     private static void actionN() {
         Rungmaster x = steps(2);
-        x.action(0, 'n', 8, 0);
-        x.action(1, 'n', 9, 0);
+        x.action(0, 'n', 8, 500);
+        x.action(1, 'n', 9, -500);
         x.transition(0, -1, 1, -1, 0, true);
         x.rung(0, 'r', 8, 0);
         x.takeOver();
@@ -264,6 +265,22 @@ public final class ChartTests {
         y.setInput(0, true);
         y.pass(10);
         Check.same("left while l was 1", y.bit(9), 0);
+    }
+
+    private static void stepsThatAreNotActiveDoNothing() {
+        Rungmaster x = steps(2);
+        x.action(1, 'n', 8, 0);
+        x.action(1, 'd', 9, 5);
+        x.action(1, 'l', 10, 5);
+        x.transition(0, -1, 0, -1, 0, true);
+        x.rung(0, 's', 8, 0);
+        x.rung(0, 's', 9, 0);
+        x.takeOver();
+        x.pass(10);
+        Check.same("as the rungs wrote", Look.given(x), "11000000");
+        x.setInput(0, true);
+        x.pass(10);
+        Check.same("also when another one is left", Look.given(x), "11000000");
     }
 
     private static void leavingGoesFirst() {

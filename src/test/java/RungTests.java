@@ -270,7 +270,7 @@ public final class RungTests {
     private static void zero() {
         Rungmaster x = new Rungmaster();
         add(x, 'R', 1, 10, '0', 0);
-        add(x, 'Z', 1, 0, '1', 0);
+        add(x, 'Z', 1, 5, '1', 0);
         x.takeOver();
         x.pass(10);
         Check.same("timer", x.timer(1), 10);
@@ -279,6 +279,7 @@ public final class RungTests {
         x.pass(10);
         Check.same("timer", x.timer(1), 0);
         Check.same("bit", x.bit(25), 0);
+        Check.same("no number", x.number(1), 0);
     }
 
     private static void constantsAndSums() {

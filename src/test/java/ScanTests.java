@@ -16,6 +16,7 @@ public final class ScanTests {
         startWhileStopped();
         startIsForced();
         startOfStationAsThePlantHasIt();
+        startByAnOutput();
         startByMemory();
         startAndPeriodAreOneScan();
         watchDropsAScan();
@@ -305,6 +306,15 @@ public final class ScanTests {
         x.pass(1);
         Check.same("scans", x.scans(1), 1);
         Check.same("not taken", x.bit(7), 0);
+    }
+
+    private static void startByAnOutput() {
+        Rungmaster x = new Rungmaster();
+        x.rung(0, 's', 8, 0);
+        x.takeOver();
+        x.setStart(8);
+        x.pass(11);
+        Check.same("as it is read", x.scans(1), 1);
     }
 
     private static void startByMemory() {

@@ -9,6 +9,7 @@ public final class StandbyTests {
         whatWasSeenIsGot();
         taskOneIsGotWithTaskZeroAlone();
         shelvingIsGot();
+        rowIsGot();
         missedInARowIsGot();
         whatStaysAtATakeover();
         startGoesOnAtATakeover();
@@ -23,6 +24,7 @@ public final class StandbyTests {
         standbyThatCameIsGone();
         standbyOfAFault();
         resetClears();
+        resetClearsWhatWasSeen();
         resetGivesForcedOutputs();
         resetSetsTimesOfLastScans();
         Check.end();
@@ -185,6 +187,20 @@ public final class StandbyTests {
         y.pass(1);
         y.fail();
         Check.same("not acknowledged then", y.alarm(0), 't');
+    }
+
+    private static void rowIsGot() {
+        Rungmaster x = new Rungmaster();
+        x.rung(0, 'A', 4, 0);
+        x.rung(0, 'A', 2, 0);
+        x.takeOver();
+        x.pass(10);
+        x.shelve(4, 99);
+        x.shelve(4, 0);
+        Check.same("row", Look.row(x), "24");
+        x.fail();
+        Check.same("as it was", Look.row(x), "42");
+        Check.same("sound", x.isSound(), true);
     }
 
     private static void missedInARowIsGot() {
@@ -457,6 +473,27 @@ public final class StandbyTests {
         x.pass(7);
         Check.same("edge", x.number(4), 5);
         Check.same("counted", x.timer(3), 1);
+    }
+
+    private static void resetClearsWhatWasSeen() {
+        Rungmaster x = new Rungmaster();
+        int edge = x.rung(0, 's', 8, 0);
+        x.contact(edge, 'u', 1);
+        x.takeOver();
+        x.setInput(1, true);
+        x.pass(10);
+        Check.same("edge", x.bit(8), 1);
+        x.reset();
+        Check.same("0", x.bit(8), 0);
+        x.pass(10);
+        Check.same("edge again", x.bit(8), 1);
+        Rungmaster y = new Rungmaster();
+        y.rung(0, 'C', 0, 9);
+        y.takeOver();
+        y.pass(20);
+        y.reset();
+        y.pass(20);
+        Check.same("it held once", y.timer(0), 1);
     }
 
     private static void resetGivesForcedOutputs() {
