@@ -222,12 +222,12 @@ public final class Rungmaster {
                 }
             }
             rowLength = kept;
-            acknowledged &= ~maskOf(which);
+            acknowledged &= ~(1 << which);
         }
 
         void appear(int which) {
             if (!isSet(there, which)) {
-                there |= maskOf(which);
+                there |= 1 << which;
                 if (shelvedFor[which] == 0) {
                     enterRow(which);
                 }
@@ -235,7 +235,7 @@ public final class Rungmaster {
         }
 
         void vanish(int which) {
-            there &= ~maskOf(which);
+            there &= ~(1 << which);
             if (isSet(acknowledged, which)) {
                 leaveRow(which);
             }
@@ -243,7 +243,7 @@ public final class Rungmaster {
 
         void confirm(int which) {
             if (isSet(there, which)) {
-                acknowledged |= maskOf(which);
+                acknowledged |= 1 << which;
             } else {
                 leaveRow(which);
             }
