@@ -32,6 +32,7 @@ public final class ScanTests {
         lostInDroppedScans();
         lostOnlyByTaskZero();
         counts();
+        greatestAndLeast();
         Check.end();
     }
 
@@ -640,5 +641,37 @@ public final class ScanTests {
         Check.same("nothing to do", x.done(), 11);
         Check.same("time", x.time(), 212);
         Check.same("mean", x.meanRungs(), 11.0 / (x.scans(0) + x.scans(1)));
+    }
+
+    /** The ends of each range are taken, and the answer is the value before. */
+    private static void greatestAndLeast() {
+        Rungmaster x = new Rungmaster();
+        for (int task = 0; task < 2; task++) {
+            Check.same("setPeriod", x.setPeriod(task, 100), task == 0 ? 10 : 0);
+            Check.same("setPeriod", x.setPeriod(task, 1), 100);
+            Check.same("setPeriod", x.setPeriod(task, 0), 1);
+            Check.same("setPeriod", x.setPeriod(task, 0), 0);
+            Check.same("setWatch", x.setWatch(task, 1), 40);
+            Check.same("setWatch", x.setWatch(task, 40), 1);
+            Check.same("setWatch", x.setWatch(task, 40), 40);
+        }
+        Check.same("setStart", x.setStart(31), -1);
+        Check.same("setStart", x.setStart(0), 31);
+        Check.same("setStart", x.setStart(-1), 0);
+        Check.same("lose", x.lose(20), 0);
+        Check.same("lose", x.lose(1), 20);
+        Check.same("lose", x.lose(1), 1);
+        Check.same("setHold", x.setHold(9), 2);
+        Check.same("setHold", x.setHold(0), 9);
+        Check.same("setHold", x.setHold(0), 0);
+        Check.same("pass", x.pass(200), 200);
+        Check.same("pass", x.pass(1), 201);
+        Check.same("shelve", x.shelve(7, 999), 0);
+        Check.same("shelve", x.shelve(7, 1), 999);
+        Check.same("shelve", x.shelve(7, 0), 1);
+        Check.same("setInput", x.setInput(7, true), false);
+        Check.same("setInput", x.setInput(7, false), true);
+        Check.same("setInput", x.setInput(0, false), false);
+        Check.same("questions", x.scans(1) + x.missed(1) + x.changes(7) + x.number(7) + x.timer(7) + x.given(7), 0);
     }
 }
