@@ -85,7 +85,7 @@ public final class RefusedCallTests {
         x.takeOver();
         x.setInput(1, true);
         x.force(20, 1);
-        x.setStart(3);
+        x.setStart(1);
         x.setWatch(0, 39);
         x.setHold(4);
         x.pass(25);

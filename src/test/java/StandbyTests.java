@@ -5,6 +5,7 @@ public final class StandbyTests {
         failsWithAStandbyInStep();
         draftThatIsTakenOverIsGot();
         draftIsNotGotOutOfStep();
+        whatADraftKeepsIsGot();
         allOfTheStateIsGot();
         whatWasSeenIsGot();
         taskOneIsGotWithTaskZeroAlone();
@@ -93,6 +94,32 @@ public final class StandbyTests {
         x.takeOver();
         Check.same("in step", x.isInStep(), false);
         Check.same("fail", x.fail(), false);
+    }
+
+    /** What the new code has not seen is not seen by the standby, either. */
+    private static void whatADraftKeepsIsGot() {
+        for (int rising = 0; rising < 2; rising++) {
+            Rungmaster x = new Rungmaster();
+            edgeAndCounter(x, 0, 1);
+            x.takeOver();
+            x.setInput(0, true);
+            x.setInput(1, true);
+            x.pass(10);
+            Check.same("edge and count", x.bit(8) * 10 + x.timer(1), 11);
+            x.emptyDraft();
+            edgeAndCounter(x, rising, 1 + rising);
+            x.takeOver();
+            Check.same("fail", x.fail(), true);
+            x.pass(1);
+            Check.same("edge", x.bit(8), rising);
+            Check.same("count", x.timer(1 + rising), 1);
+        }
+    }
+
+    private static void edgeAndCounter(Rungmaster x, int bit, int timer) {
+        int edge = x.rung(0, '=', 8, 0);
+        x.contact(edge, 'u', bit);
+        x.rung(0, 'C', timer, 9);
     }
 
     private static void allOfTheStateIsGot() {
